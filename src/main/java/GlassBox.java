@@ -597,8 +597,8 @@ public final class GlassBox {
         final int[] costs = new int[SITTING];
 
         State() {
-            for (int what = LOAD; what <= SPARES; what++) {
-                Arrays.fill(words, what * WORDS, (what + 1) * WORDS, WORD_FIRST[what]);
+            for (int i = 0; i < words.length; i++) {
+                words[i] = WORD_FIRST[i / WORDS];
             }
             System.arraycopy(TERM_FIRST, 0, terms, 0, TERMS);
         }
@@ -636,7 +636,9 @@ public final class GlassBox {
             int number = sentenceCount;
             System.arraycopy(bytes, 0, rows, number * ROW_MOST, length);
             lengths[number] = length;
-            Arrays.fill(weights, number * SPEAKERS, (number + 1) * SPEAKERS, 1);
+            for (int speaker = 0; speaker < SPEAKERS; speaker++) {
+                weights[number * SPEAKERS + speaker] = 1;
+            }
             sentenceCount++;
             return number;
         }
@@ -717,6 +719,15 @@ public final class GlassBox {
                 }
             }
             return true;
+        }
+
+        int firstIn(int bits) {
+            for (int s = 0; s < sentenceCount; s++) {
+                if ((bits >> s & 1) == 1) {
+                    return s;
+                }
+            }
+            return sentenceCount;
         }
 
         int valuesOf(int bits, int slot) {
@@ -1180,7 +1191,7 @@ public final class GlassBox {
             int place = 0;
             for (int second = 0; second < length; second++) {
                 int comes = from.comeBehind(sentence, second + 1);
-                int first = Integer.numberOfTrailingZeros(comes);
+                int first = from.firstIn(comes);
                 if (first < sentence) {
                     place = placeAt[first * SECONDS + second];
                 } else {

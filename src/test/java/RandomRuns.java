@@ -98,7 +98,10 @@ public final class RandomRuns {
             for (int i = 0; i < sentencesWanted && well; i++) {
                 addSentence();
             }
-            int most = seed % 40 == 0 ? 120 : 400;
+            for (int i = random.nextInt(60); i > 0 && well; i--) {
+                setSomething();
+            }
+            int most = seed % 40 == 0 ? 180 : 500;
             while (well && calls.size() < most) {
                 step();
                 same("status", box.status(), model.status());
@@ -183,10 +186,11 @@ public final class RandomRuns {
 
         void setSomething() {
             int[] most = {60, 60, 100, 100, 1000, 1000, 1000, 100, 1000};
-            switch (random.nextInt(8)) {
-                case 0: {
+            switch (random.nextInt(9)) {
+                case 0:
+                case 8: {
                     int w = chance(80) ? random.nextInt(alphabet) : number(0, 29);
-                    int what = number(0, 2);
+                    int what = chance(60) ? 0 : number(0, 2);
                     int value = number(what == 1 ? 1 : 0, what == 1 ? 60 : 9);
                     same("word", box.word(w, what, value), model.word(w, what, value), w, what, value);
                     break;
