@@ -1266,14 +1266,6 @@ public final class GlassBox {
             return due != NONE && digit != due && isValue(digit);
         }
 
-        int mendable(int place, int said) {
-            int slots = 0;
-            for (int slot = 0; slot < SLOTS; slot++) {
-                slots += canMend(place, said, slot) ? 1 : 0;
-            }
-            return slots;
-        }
-
         int mended(int place, int said, int slot) {
             return Said.changedAt(said, Said.doneIn(said), PLACE_OF[order * SLOTS + slot], sole[place * SLOTS + slot]);
         }
@@ -1510,8 +1502,9 @@ public final class GlassBox {
         /** All MOVES in one number behind a 1, so that WAITS count too and no two rows have the same. */
         long trace = 1;
         int said = 0;
-        final long[] asked = new long[WORD_COUNT];
-        final long[] stack = new long[STACK];
+        private final long[] asked = new long[WORD_COUNT];
+        private int mendMove = NONE;
+        private final long[] stack = new long[STACK];
 
         int play(Tree tree, Habit habit, int sentence) {
             int loss = 0;
@@ -1549,8 +1542,21 @@ public final class GlassBox {
             asked[6] = at == NONE ? 0 : Integer.bitCount(tree.masks[at]);
             asked[7] = second;
             asked[8] = tree.speaker;
-            asked[9] = tree.mendable(place, said);
+            asked[9] = askMends(tree, place);
             asked[10] = tree.load[place];
+        }
+
+        /** How many SLOTS could be mended; the lowest of them is kept. */
+        private int askMends(Tree tree, int place) {
+            int slots = 0;
+            mendMove = NONE;
+            for (int slot = SLOTS - 1; slot >= 0; slot--) {
+                if (tree.canMend(place, said, slot)) {
+                    slots++;
+                    mendMove = MEND + slot;
+                }
+            }
+            return slots;
         }
 
         private int chooseBy(Tree tree, Habit habit, int place) {
@@ -1579,7 +1585,7 @@ public final class GlassBox {
                 return tree.over[place] ? NONE : WAIT;
             }
             if (head == Reader.MEND_HEAD) {
-                return mendPossible(tree, place);
+                return mendMove;
             }
             if (done >= SLOTS) {
                 return NONE;
@@ -1596,15 +1602,6 @@ public final class GlassBox {
                 default:
                     return known ? NONE : GUESS + tree.likeliest[at];
             }
-        }
-
-        private int mendPossible(Tree tree, int place) {
-            for (int slot = 0; slot < SLOTS; slot++) {
-                if (tree.canMend(place, said, slot)) {
-                    return MEND + slot;
-                }
-            }
-            return NONE;
         }
 
         /** Whether a TEST is so and not BROKEN. */
