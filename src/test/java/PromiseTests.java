@@ -23,6 +23,7 @@ public final class PromiseTests {
         speakers();
         promise = 7;
         sentences();
+        sixteenLongSentences();
         promise = 8;
         weights();
         promise = 9;
@@ -316,7 +317,37 @@ public final class PromiseTests {
         due("a 17th twice", sentence(x, 0, 0, 0, 29), -4);
         due("a 17th without a row", x.sentence(0, 0, 0), -6);
         due("count", x.count(0), 16);
-        due("16 are enough for best", x.best() >= 0 ? 1 : 0, 1);
+    }
+
+    /** As many places as there can be, and no more SENTENCES than can be asked for. */
+    private static void sixteenLongSentences() {
+        GlassBox x = new GlassBox();
+        for (int s = 0; s < 16; s++) {
+            due("sentence", sentence(x, s % 8, s / 2, 7 - s % 8, s, 16, 17, 18, 19, 20, 21, 22), s);
+        }
+        for (int w = 0; w < 30; w++) {
+            x.word(w, 0, 9);
+        }
+        x.terms(4, 1000);
+        // Behind the MOVES 0, 6, 12, 21, 30, 39, 48, 57 above HEAD; END at once.
+        due("213 each", x.best(), 16 * 213);
+        for (int s = 0; s < 16; s++) {
+            same("plan", plan(x, s), "1 1 1 0 0 0 0 0 4");
+            due("said 0 0 0: MEND", x.table(s, 8, 111), s % 8 != 0 ? 20 : s / 2 != 0 ? 21 : 22);
+        }
+        due("by habit", habit(x, "guess"), 0);
+        due("213 each", x.worth(0), 16 * 213);
+        due("fixed(16)", x.fixed(16, 0), NONE);
+        due("odds(16)", x.odds(16, 0, 0, 0, 0), NONE);
+        due("fits(16)", x.fits(16, 1, 0), NONE);
+        due("row(16)", x.row(16, NONE), NONE);
+        due("run(16)", x.run(0, 16), NONE);
+        due("whose(16)", x.whose(0, 16, 0, 0, 0), NONE);
+        due("read(16)", x.read(16), NONE);
+        due("plan(16)", x.plan(16, 0), NONE);
+        due("table(16)", x.table(16, 0, 0), NONE);
+        due("parting", x.parting(0), NONE);
+        due("the last one", x.odds(15, 1, 0, 7, 0), 1);
     }
 
     private static void weights() {
@@ -678,6 +709,7 @@ public final class PromiseTests {
             {"say if 1 = known", 11}, {"say if 1 = not 2", 11}, {"say if not", 10}, {"say if known and", 16},
             {"say if known or or over", 16}, {"say if -1 = 1", 7}, {"say if 1 = -1", 11}, {"say if 1 + * 2 = 3", 11},
             {"say if 1 = 1]", 12}, {"say if 1 = 1)", 12}, {"say if [1] 2 = 1", 11}, {"say if guess = 1", 7}, {"say if 1a = 1", 8},
+            {"sayz", 0}, {"asay", 0}, {"say`", 3}, {"say{", 3}, {"say/", 3}, {"say if 1:=1", 8},
             {"say\tif known", 3}, {"say if known \u00e9", 13}, {"end", 0}, {"say if [] = 1", 8}, {"say if () ", 8},
             {"say if known if over", 13}, {"say say", 4}, {"say if 2 >= 1", 10}, {"say if 1 = 1 = 1", 13}, {"1", 0},
         };
@@ -943,6 +975,11 @@ public final class PromiseTests {
         due("30", x.write(30), NONE);
         due("-2", x.write(-2), NONE);
         due("most", x.write(MAX), NONE);
+        x.weigh(0, 0, 1);
+        x.terms(0, 8);
+        due("9 held, 1 above", x.best(), 1);
+        due("just above 0", x.write(3), 1);
+        due("just above 0", x.write(NONE), 2);
         x.terms(2, 0);
         due("nothing fades", x.write(2), 0);
         due("none is worth it", x.write(NONE), NONE);

@@ -62,7 +62,7 @@ public final class RandomRuns {
         Run(int seed) {
             this.seed = seed;
             random = new Random(seed);
-            alphabet = 1 + random.nextInt(random.nextBoolean() ? 3 : 30);
+            alphabet = seed % 80 == 0 ? 30 : 1 + random.nextInt(random.nextBoolean() ? 3 : 30);
             sentencesWanted = seed % 40 == 0 ? 16 : 1 + random.nextInt(6);
         }
 
