@@ -320,6 +320,9 @@ public final class GlassBox {
             return NONE;
         }
         freshenTree();
+        if (!tree.canFade()) {
+            return word == NONE ? NONE : 0;
+        }
         long least = solver.solve(true);
         if (word != NONE) {
             return sparedBy(word, least);
@@ -1291,6 +1294,16 @@ public final class GlassBox {
 
         int held(int place, int done) {
             return Math.max(load[place] - terms[RELIEF] * done, 0);
+        }
+
+        /** Whether a LOAD can cost anything at all. */
+        boolean canFade() {
+            for (int place = 1; place < placeCount; place++) {
+                if (terms[FADE] > 0 && load[place] > terms[HEAD]) {
+                    return true;
+                }
+            }
+            return false;
         }
 
         /** What a SECOND costs by what is HELD and its lateness, if so many are DONE behind the MOVE. */
