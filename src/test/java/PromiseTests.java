@@ -692,10 +692,15 @@ public final class PromiseTests {
         due("at it", x.fault(), 7);
         String twelve = times(11, "say;") + "say";
         due("12 clauses", habit(x, twelve), 5);
+        x.image(0);
         due("13 clauses", habit(x, twelve + " ; say"), -6);
         due("at its first token", x.fault(), twelve.length() + 3);
         due("13 with an end", habit(x, twelve + ";  "), -6);
         due("at the end", x.fault(), twelve.length() + 3);
+        due("400 tokens", habit(x, times(400, ";")), -6);
+        due("at the first", x.fault(), 0);
+        due("400 bytes", habit(x, "say if known" + times(388, " ")), 6);
+        x.back(0);
         due("many nots", habit(x, "say if " + times(97, "not ") + "known"), 6);
     }
 
@@ -767,11 +772,13 @@ public final class PromiseTests {
         sentence(y, 1, 1, 0, 0, 0, 1);
         sentence(y, 2, 2, 0, 0, 0, 2);
         habit(y, "guess;mend");
+        String[] due = {
+            "11 11 20 21 1 4", "11 1 20 1 4", "11 11 20 21 1 4", "11 1 21 1 4", "1 11 20 1 4", "1 11 21 1 4",
+        };
         for (int order = 0; order < 6; order++) {
             y.order(order);
             y.run(0, 1);
-            String moves = moved(y);
-            due("20 ahead of 21 in " + moves, moves.indexOf("21") < 0 || moves.indexOf("20") < moves.indexOf("21") ? 1 : 0, 1);
+            same("moves in order " + order, moved(y), due[order]);
         }
     }
 
