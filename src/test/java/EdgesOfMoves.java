@@ -268,6 +268,9 @@ public final class EdgesOfMoves {
         x.weigh(0, 0, 0);
         x.weigh(2, 0, 1);
         Due.due("without a WEIGHT, but another can come", x.fits(0, 2, 0), 1);
+        x.weigh(2, 0, 0);
+        Due.due("nothing CAN COME: no VALUE is missing in the shortest", x.fits(0, 2, 0), 2);
+        Due.due("nothing CAN COME, no OPENING of the SLOT", x.fits(0, 2, 1), NONE);
     }
 
     private static void fitsNone() {
