@@ -1350,6 +1350,8 @@ public final class GlassBox {
         static final long MOVE_MASK = 31;
         static final int LOSS_BITS = 32;
         static final long LOSS_MASK = 0xFFFFFFFFL;
+        /** Above any loss with its MOVE, for what can't be done. */
+        static final long NEVER = 1L << 62;
         static final int COUNTS = SLOTS + 1;
 
         private final Tree tree;
@@ -1420,7 +1422,7 @@ public final class GlassBox {
             if (depth > DEEPEST) {
                 return 0;
             }
-            long least = tree.over[place] ? Long.MAX_VALUE : packed(lossAfter(place, said, done, depth), WAIT);
+            long least = tree.over[place] ? NEVER : packed(lossAfter(place, said, done, depth), WAIT);
             if (done < SLOTS) {
                 least = Math.min(least, chooseNext(place, said, done, depth));
             }
@@ -1467,7 +1469,7 @@ public final class GlassBox {
         private long chooseMend(int place, int mended, int done, int at, int depth) {
             int described = tree.nextAt(place, at);
             if (tree.sole[described] == NONE) {
-                return Long.MAX_VALUE;
+                return NEVER;
             }
             long loss = (long) tree.weight[place] * tree.terms[MENDING] + lossAfter(place, mended, done, depth);
             return packed(loss, MEND + described - place * SLOTS);
@@ -1719,6 +1721,8 @@ public final class GlassBox {
 
     /** The latest RELIEVED. */
     private static final class Relief {
+        static final int DEARER_THAN_ALL = 1 << 30;
+
         final int[] changes = new int[RELIEF_MOST];
         int changeCount = NONE;
         private final int[] least = new int[RELIEF_MOST + 1];
@@ -1742,7 +1746,7 @@ public final class GlassBox {
         /** Of alike costs the longest sitting is kept: it changes later where two rows part first. */
         private void sitFrom(int minute, int[] costs, int changeCost, int minutes) {
             int sitting = 0;
-            least[minute] = Integer.MAX_VALUE;
+            least[minute] = DEARER_THAN_ALL;
             sits[minute] = 1;
             for (int stay = 1; stay <= SITTING && minute + stay <= minutes; stay++) {
                 sitting += costs[stay - 1];

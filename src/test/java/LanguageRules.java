@@ -52,8 +52,8 @@ public final class LanguageRules {
         "int", "long", "boolean", "char", "String", "int[]", "long[]", "char[]", "byte[]");
     private static final Map<String, Set<String>> LIBRARY = Map.of(
         "Math", Set.of("min", "max", "abs", "floorDiv", "floorMod"),
-        "Integer", Set.of("bitCount", "compare", "min", "max", "MAX_VALUE", "MIN_VALUE"),
-        "Long", Set.of("compare", "min", "max", "MAX_VALUE", "MIN_VALUE"),
+        "Integer", Set.of("bitCount", "compare", "min", "max"),
+        "Long", Set.of("compare", "min", "max"),
         "Arrays", Set.of("fill", "copyOf", "copyOfRange"),
         "System", Set.of("arraycopy"));
     private static final int CLASSES = 12;
